@@ -413,7 +413,7 @@ public final class RepeatLearner {
         }
     }
 
-    /** The order of the candidates decides between equal ones: the nearer first, the negative one before the positive one. */
+    /** Between equal misfits the order decides: the nearer shift comes first, the negative one before the positive. */
     private int bestFittingShift() {
         int fitting = 0;
         long least = misfit(0);
@@ -466,7 +466,7 @@ public final class RepeatLearner {
         correct(partErrors, recorded, true);
     }
 
-    /** An aborted trial fades: its last samples count less, so that the corrected inputs have no edge where it ended. */
+    /** The last samples of an aborted trial fade, so that the corrected inputs have no edge where it ended. */
     private void correct(int[] errors, int known, boolean fades) {
         for (int k = 0; k + settings.lead < known; k++) {
             int from = k + settings.lead;

@@ -1,6 +1,9 @@
 import java.util.function.ToLongFunction;
 
-/** A call that reports an error changes nothing: two objects are brought to the same state, and only one gets the call. */
+/**
+ * Each error, and that a call that reports one changes nothing: two objects are brought to the same state,
+ * and only one of them gets the call.
+ */
 public final class ErrorsTest {
     private static final int BAD = RepeatLearner.BAD_VALUE;
     private static final int NONE = RepeatLearner.NONE;

@@ -212,6 +212,10 @@ public final class HistoryTest {
         Due.is("22: all equal", x.worstSample(1), 0);
         Due.is("22: the lowest of several", x.worstSample(2), 1);
         Due.is("22: worstSample(3)", x.worstSample(3), NONE);
+        Due.trial(x, 9, -5, -8, 0, 0);
+        Due.is("22: a negative error", x.worstSample(0), 0);
+        Due.trial(x, -8, 0, 0, 9, 0);
+        Due.is("22: a negative error behind", x.worstSample(0), 3);
         Due.is("22: worstSample(5)", x.worstSample(5), BAD);
         Due.is("22: worstSample(-1)", x.worstSample(-1), BAD);
     }

@@ -176,6 +176,13 @@ public final class PlantTest {
         }
         x.setGain(0, 0);
         Due.is("31: gain 0", x.suits(), 1);
+        RepeatLearner y = new RepeatLearner();
+        y.setGain(1, 0);
+        y.setPlant(0, 7);
+        y.setPlant(5, -7);
+        Due.is("31: a sum of 1000000", y.suits(), 1);
+        y.setPlant(1, 1);
+        Due.is("31: a sum of 1000001", y.suits(), 0);
         x.setGain(2000, 0);
         for (int i = 0; i < 6; i++) {
             x.setPlant(i, -3000);

@@ -8,6 +8,8 @@ public final class SettingsTest {
         promise2Reset();
         promise2ResetForgetsEverything();
         promise2ResetForgetsLongRows();
+        promise2ResetForgetsBadTrials();
+        promise2ShorterTrialsAfterLongOnes();
         promise3SetReference();
         promise4SetGain();
         promise4GainAndLeadCorrect();
@@ -117,6 +119,41 @@ public final class SettingsTest {
         Due.is("2: input(47)", x.input(47), 0);
     }
 
+    private static void promise2ResetForgetsBadTrials() {
+        RepeatLearner x = Due.withSamples(4);
+        Due.trial(x, 1, 0, 0, 0);
+        Due.trial(x, 2, 0, 0, 0);
+        Due.is("2: count(4)", x.count(4), 1);
+        x.reset(4);
+        Due.is("2: count(4) after reset", x.count(4), 0);
+        x.setGuard(true);
+        Due.trial(x, 5, 0, 0, 0);
+        Due.is("2: best(0) is the first one again", x.best(0), 5);
+        Due.trial(x, 6, 0, 0, 0);
+        Due.is("2: count(3) after one bad trial", x.count(3), 0);
+    }
+
+    /** What a longer trial left behind its end must not be learned from. */
+    private static void promise2ShorterTrialsAfterLongOnes() {
+        RepeatLearner x = Due.withSamples(10);
+        Due.trial(x, 900, 900, 900, 900, 900, 900, 900, 900, 900, 900);
+        Due.trial(x, 900, 900, 900, 900, 900, 900, 900, 900, 900);
+        x.abort();
+        x.reset(5);
+        x.setGain(1000, 2);
+        x.setGreatestShift(5);
+        Due.trial(x, 1, 2, 3, 4, 5);
+        Due.inputs("2: a complete trial", x, -3, -4, -5, 0, 0);
+        Due.is("2: worstSample(0)", x.worstSample(0), 4);
+        Due.is("2: energy(0)", x.energy(0), 55);
+        Due.is("2: norm(0)", x.norm(0), 15);
+        Due.trial(x, 0, 0, 1, 0);
+        x.abort();
+        Due.inputs("2: an aborted trial", x, -4, -4, -5, 0, 0);
+        Due.trial(x, 2, 3, 4, 5, 5);
+        Due.is("2: shift(0)", x.shift(0), -1);
+    }
+
     private static void promise3SetReference() {
         RepeatLearner x = Due.withSamples(4);
         Due.is("3: setReference(0, 1000000)", x.setReference(0, 1000000), 0);
@@ -171,6 +208,13 @@ public final class SettingsTest {
         y.setReference(9, 90);
         y.simulate(1);
         Due.inputs("4: lead 8", y, 80, 90, 0, 0, 0, 0, 0, 0, 0, 0);
+        RepeatLearner w = Due.withSamples(48);
+        w.setGain(1000, 8);
+        w.setReference(47, 5);
+        w.simulate(1);
+        Due.is("4: lead 8 of 48 samples: input(39)", w.input(39), 5);
+        Due.is("4: lead 8 of 48 samples: input(40)", w.input(40), 0);
+        Due.is("4: lead 8 of 48 samples: input(47)", w.input(47), 0);
         RepeatLearner z = Due.withSamples(4);
         z.setGain(2000, 8);
         z.setReference(3, 70);

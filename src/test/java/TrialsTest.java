@@ -126,6 +126,9 @@ public final class TrialsTest {
         Due.trial(x, 0, 0, 0, 0, 0);
         Due.is("13: abort()", x.abort(), 5);
         Due.inputs("13: only known errors", x, 200, 300, 200, 0, 0, 0, 0, 0);
+        Due.trial(x, 0, 100, 100, 300);
+        Due.is("13: abort()", x.abort(), 4);
+        Due.inputs("13: only known errors of the latest trial", x, 300, 300, 200, 0, 0, 0, 0, 0);
     }
 
     private static void promise13AbortCorrectsAllInputs() {
