@@ -413,17 +413,16 @@ public final class RepeatLearner {
         }
     }
 
-    /** Between equal misfits the order decides: the nearer shift comes first, the negative one before the positive. */
+    /** Between equal misfits the order of the turns decides: 0, -1, 1, -2, 2 and so on. */
     private int bestFittingShift() {
         int fitting = 0;
         long least = misfit(0);
-        for (int size = 1; size <= settings.greatestShift; size++) {
-            for (int shift = -size; shift <= size; shift += 2 * size) {
-                long sum = misfit(shift);
-                if (sum < least) {
-                    least = sum;
-                    fitting = shift;
-                }
+        for (int turn = 2; turn <= 2 * settings.greatestShift + 1; turn++) {
+            int shift = turn % 2 == 0 ? -turn / 2 : turn / 2;
+            long sum = misfit(shift);
+            if (sum < least) {
+                least = sum;
+                fitting = shift;
             }
         }
         return fitting;

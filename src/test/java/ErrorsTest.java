@@ -158,45 +158,6 @@ public final class ErrorsTest {
     }
 
     private static void due(Stage stage, String call, long want, ToLongFunction<RepeatLearner> made) {
-        RepeatLearner called = broughtTo(stage);
-        RepeatLearner twin = broughtTo(stage);
-        Due.is(stage + ": " + call, made.applyAsLong(called), want);
-        String behind = stage + ", " + call + ", then ";
-        sameAnswers(behind + "at once: ", called, twin);
-        goOn(called);
-        goOn(twin);
-        sameAnswers(behind + "after more trials: ", called, twin);
-    }
-
-    /** Brings to light what no question answers, as the seed and the plant. */
-    private static void goOn(RepeatLearner x) {
-        x.record(14);
-        x.record(15);
-        x.simulate(3);
-        x.setSmoothing(0, 0);
-        x.simulate(2);
-    }
-
-    private static void sameAnswers(String behind, RepeatLearner a, RepeatLearner b) {
-        for (int i = 0; i <= 10; i++) {
-            Due.is(behind + "setting(" + i + ")", a.setting(i), b.setting(i));
-        }
-        for (int k = 0; k < 4; k++) {
-            Due.is(behind + "input(" + k + ")", a.input(k), b.input(k));
-            Due.is(behind + "reference(" + k + ")", a.reference(k), b.reference(k));
-            Due.is(behind + "bestInput(" + k + ")", a.bestInput(k), b.bestInput(k));
-            Due.is(behind + "state(" + k + ")", a.state(k), b.state(k));
-            Due.is(behind + "error(" + k + ", 0)", a.error(k, 0), b.error(k, 0));
-        }
-        for (int i = 0; i < 5; i++) {
-            Due.is(behind + "count(" + i + ")", a.count(i), b.count(i));
-            Due.is(behind + "norm(" + i + ")", a.norm(i), b.norm(i));
-            Due.is(behind + "shift(" + i + ")", a.shift(i), b.shift(i));
-            Due.is(behind + "energy(" + i + ")", a.energy(i), b.energy(i));
-        }
-        Due.is(behind + "best(0)", a.best(0), b.best(0));
-        Due.is(behind + "best(1)", a.best(1), b.best(1));
-        Due.is(behind + "position()", a.position(), b.position());
-        Due.is(behind + "suits()", a.suits(), b.suits());
+        Twins.refused(stage + ": " + call, () -> broughtTo(stage), want, made);
     }
 }
