@@ -33,6 +33,7 @@ public final class TrialEdgesTest {
         abortIsNotAligned();
         abortCountsForNoOtherTrial();
         abortLearnsByThePresentReferences();
+        abortLearnsByThePresentSettings();
         trialsBeginAtTheFirstSample();
         Due.finish();
     }
@@ -494,6 +495,17 @@ public final class TrialEdgesTest {
         x.setReference(1, -80);
         Due.is("abort()", x.abort(), 2);
         Due.inputs("by the references at the abort", x, 100, -10, 0, 0);
+    }
+
+    private static void abortLearnsByThePresentSettings() {
+        RepeatLearner x = Due.withSamples(5);
+        x.setInput(4, 1000);
+        Due.trial(x, -1000, -1000, -1000, -1000);
+        x.setGain(2000, 1);
+        x.setLimits(1500, 2);
+        x.setSmoothing(100, 1);
+        Due.is("abort()", x.abort(), 4);
+        Due.inputs("by the settings at the abort", x, 1500, 1500, 1000, 200, 900);
     }
 
     private static void trialsBeginAtTheFirstSample() {
